@@ -46,6 +46,7 @@ public final class PolicyText {
 
     private static final int LETTER_BITS = 5;
     private static final int LETTER_MASK = 31;
+    private static final long NAME_A = 1L;
 
     private final Bytes text;
     private final Reader reader;
@@ -63,7 +64,7 @@ public final class PolicyText {
         spare = new Policy();
         reader = new Reader(text, spare);
         current = new Call();
-        policy.addHead(true, 1L);
+        policy.addHead(true, NAME_A);
     }
 
     public boolean give(long v, int n) {

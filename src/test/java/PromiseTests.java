@@ -8,6 +8,12 @@ public final class PromiseTests {
             + "(node shut (go 1 (arg 0 same 7) open) (go 1 open) (go 2 (not (count tries less 2)) shut))\n"
             + "(node open (go any (not (not (not (arg 2 more -3)))) shut))\n";
 
+    private static final String MOVING =
+            "(counter a 2(up 1)(zero 1)(zero 2))(counter b 15(up 1(count a same 1)))"
+            + "(counter c 3(zero 1(count c more 1))(up 1))"
+            + "(node n(go 1 n)(go 1 m)(go any m)(go 2(count a less 2)o)(go 1(count a same 0)o))"
+            + "(node m)(node o(go 2(not(count a same 2))o))";
+
     public static void main(String[] args) {
         newObject();
         give();
@@ -25,6 +31,7 @@ public final class PromiseTests {
         call();
         holds();
         make();
+        makeMovesCounters();
         byteAt();
         look();
         check.end();
@@ -207,6 +214,11 @@ public final class PromiseTests {
         fault("()", 2, 1);
         fault("(7", 2, 1);
         fault("(go", 2, 1);
+        fault("(mode a)", 2, 1);
+        fault("(noda a)", 2, 1);
+        fault("(node a(ho 1 a))", 2, 8);
+        fault("(node a(go ony a))", 2, 11);
+        fault("(node a(go 1(org 0 less 1)a))", 2, 13);
         fault("(node(", 2, 5);
         fault("(node)", 2, 5);
         fault("(node 1)", 2, 6);
@@ -515,6 +527,8 @@ public final class PromiseTests {
         testIs(x, true, 0, 0, 1, 1, 2, 1, 0);
         testIs(x, true, 0, 0, 2, 0, 1, 0, 0);
         testIs(x, true, 0, 0, 3, -1, -1, -1, -1);
+        x = with("(counter a 1(up 1(count b less 1)))(counter b 1)(node a)");
+        testIs(x, false, 0, 0, 0, 1, 1, 0, 0);
     }
 
     private static void than() {
@@ -546,6 +560,10 @@ public final class PromiseTests {
         check.due("the CALL stays", x.holds(true, 0, 1), true);
         x.call(15, 1, 2, 4);
         check.due("another ARGUMENT", x.holds(true, 0, 1), false);
+        check.due("call 0", x.call(0, 1, 2, 3), true);
+        check.due("the CALL is 0 again", x.holds(true, 0, 0), true);
+        check.due("call least", x.call(Integer.MIN_VALUE, 1, 2, 3), false);
+        check.due("call most", x.call(Integer.MAX_VALUE, 1, 2, 3), false);
     }
 
     private static void holds() {
@@ -592,10 +610,7 @@ public final class PromiseTests {
     }
 
     private static void make() {
-        PolicyText x = with("(counter a 2(up 1)(zero 1)(zero 2))(counter b 15(up 1(count a same 1)))"
-                + "(counter c 3(zero 1(count c more 1))(up 1))"
-                + "(node n(go 1 n)(go 1 m)(go any m)(go 2(count a less 2)o)(go 1(count a same 0)o))"
-                + "(node m)(node o(go 2(not(count a same 2))o))");
+        PolicyText x = with(MOVING);
         check.due("make of call 0", x.make(0), 1);
         standsAt(x, 0, 0, 0);
         x.call(1, 0, 0, 0);
@@ -608,6 +623,16 @@ public final class PromiseTests {
         standsAt(x, 2, 1, 2);
         check.due("no WAYS", x.make(1), 0);
         standsAt(x, 2, 1, 0);
+        x = with("(counter c 1(zero 1)(zero 1)(zero 1))(node a(go 1 b)(go 1 c)(go 1 d)(go 1 b))"
+                + "(node b)(node c)(node d)");
+        x.call(1, 0, 0, 0);
+        check.due("b, c and d", x.make(0), 3);
+    }
+
+    private static void makeMovesCounters() {
+        PolicyText x = with(MOVING);
+        x.stand(0, 2);
+        x.stand(1, 1);
         x.call(2, 0, 0, 0);
         check.due("before zero", x.make(2), 0);
         standsAt(x, 0, 1, 0);
