@@ -2,12 +2,18 @@
 final class Check {
     private int wrong = 0;
     private int asked = 0;
+    private String sentence = "";
+
+    /** The document's words that the answers from here on are held to. */
+    void sentence(String words) {
+        sentence = "[" + words + "] ";
+    }
 
     void due(String what, long got, long want) {
         asked++;
         if (got != want) {
             wrong++;
-            System.out.println(what + " answered " + got + ", due is " + want);
+            System.out.println(sentence + clipped(what) + " answered " + got + ", due is " + want);
         }
     }
 
@@ -19,8 +25,12 @@ final class Check {
         asked++;
         if (!got.equals(want)) {
             wrong++;
-            System.out.println(what + " answered\n" + got + "\ndue is\n" + want);
+            System.out.println(sentence + clipped(what) + " answered\n" + got + "\ndue is\n" + want);
         }
+    }
+
+    private static String clipped(String what) {
+        return what.length() < 300 ? what : what.substring(0, 200) + " .. " + what.substring(what.length() - 80);
     }
 
     int wrongOnes() {
@@ -32,6 +42,25 @@ final class Check {
         if (wrong > 0) {
             System.exit(1);
         }
+    }
+
+    /** A new object whose POLICY is that text. */
+    PolicyText with(String text) {
+        PolicyText x = new PolicyText();
+        due("read of " + text, readOf(x, text), 0);
+        return x;
+    }
+
+    void right(String text) {
+        fault(text, 0, -1);
+    }
+
+    /** A new object finds that fault at that place. */
+    void fault(String text, int fault, int place) {
+        PolicyText x = new PolicyText();
+        due("fault of " + text, readOf(x, text), fault);
+        due("look(4) of " + text, x.look(4), fault);
+        due("place of " + text, x.look(5), place);
     }
 
     /** Adds a text, eight bytes a call; answers whether all of it found room. */

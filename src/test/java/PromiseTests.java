@@ -37,12 +37,6 @@ public final class PromiseTests {
         check.end();
     }
 
-    private static PolicyText with(String text) {
-        PolicyText x = new PolicyText();
-        check.due("read of " + text, Check.readOf(x, text), 0);
-        return x;
-    }
-
     private static String repeat(String part, int times) {
         return part.repeat(times);
     }
@@ -84,24 +78,12 @@ public final class PromiseTests {
 
     /** A TEXT of 4093 bytes in fewer than 512 calls: PRINTED it is longer than given. */
     private static PolicyText almostFull() {
-        PolicyText x = with(wide(162));
+        PolicyText x = check.with(Texts.wide(162));
         check.due("a wide policy PRINTED", x.print(), 4077);
         check.due("turnOver of it", x.turnOver(), true);
         x.give(0x2020202020202020L, 8);
         x.give(0x2020202020202020L, 8);
         return x;
-    }
-
-    /** So many WAYS, packed closely: 21 bytes each, and 24 PRINTED. */
-    private static String wide(int ways) {
-        StringBuilder all = new StringBuilder();
-        for (int w = 0; w < ways; w++) {
-            if (w % 8 == 0) {
-                all.append(w > 0 ? ")" : "").append("(node ").append((char) ('a' + w / 8));
-            }
-            all.append("(go 1(arg 0 less 0)a)");
-        }
-        return all.append(")").toString();
     }
 
     private static void cut() {
@@ -132,7 +114,7 @@ public final class PromiseTests {
     }
 
     private static void read() {
-        PolicyText x = with(DOOR);
+        PolicyText x = check.with(DOOR);
         x.stand(0, 3);
         check.due("TEXT stays", Check.bytes(x, true), DOOR);
         check.due("a fault", Check.readOf(x, "(node a"), 3);
@@ -147,13 +129,6 @@ public final class PromiseTests {
         faultsOfNames();
         faultsOfEnds();
         faultsOfLinks();
-    }
-
-    private static void fault(String text, int fault, int place) {
-        PolicyText x = new PolicyText();
-        check.due("fault of " + text, Check.readOf(x, text), fault);
-        check.due("look(4) of " + text, x.look(4), fault);
-        check.due("place of " + text, x.look(5), place);
     }
 
     private static void rightTexts() {
@@ -172,168 +147,168 @@ public final class PromiseTests {
             "(counter a 1" + repeat("(up 0)(zero 0)", 2) + ")(node a)",
         };
         for (String text : right) {
-            fault(text, 0, -1);
+            check.fault(text, 0, -1);
         }
     }
 
     private static void faultsOfTokens() {
-        fault("A", 1, 0);
-        fault("(node a)\t", 1, 8);
-        fault("(node a)\r", 1, 8);
-        fault("(node a)\0", 1, 8);
-        fault("(node a)\u00ff", 1, 8);
-        fault("(node a)\u00a8", 1, 8);
-        fault("(node abcdefghijklm)", 1, 6);
-        fault("(node aB)", 1, 7);
-        fault("(node a1)", 1, 6);
-        fault("(node a-)", 1, 6);
-        fault("(node -)", 1, 6);
-        fault("(node --1)", 1, 6);
-        fault("(node 1-1)", 1, 6);
-        fault("(node 1a)", 1, 6);
-        fault("(node a(go 1 (arg 0 less 2147483648) a))", 1, 25);
-        fault("(node a(go 1 (arg 0 less -2147483649) a))", 1, 25);
-        fault("(node a(go 1 (arg 0 less 99999999999999999999999) a))", 1, 25);
-        fault("(node a(go 1 (arg 0 less 18446744073709551617) a))", 1, 25);
-        fault("(node a(go 1a))", 1, 11);
-        fault("x A", 2, 0);
-        fault("(node a) x A", 2, 9);
-        fault("(nodea)", 2, 1);
-        fault("(node`", 1, 5);
-        fault("(node{", 1, 5);
-        fault("(node/", 1, 5);
-        fault("(node:", 1, 5);
-        fault("(node a*", 1, 7);
+        check.fault("A", 1, 0);
+        check.fault("(node a)\t", 1, 8);
+        check.fault("(node a)\r", 1, 8);
+        check.fault("(node a)\0", 1, 8);
+        check.fault("(node a)\u00ff", 1, 8);
+        check.fault("(node a)\u00a8", 1, 8);
+        check.fault("(node abcdefghijklm)", 1, 6);
+        check.fault("(node aB)", 1, 7);
+        check.fault("(node a1)", 1, 6);
+        check.fault("(node a-)", 1, 6);
+        check.fault("(node -)", 1, 6);
+        check.fault("(node --1)", 1, 6);
+        check.fault("(node 1-1)", 1, 6);
+        check.fault("(node 1a)", 1, 6);
+        check.fault("(node a(go 1 (arg 0 less 2147483648) a))", 1, 25);
+        check.fault("(node a(go 1 (arg 0 less -2147483649) a))", 1, 25);
+        check.fault("(node a(go 1 (arg 0 less 99999999999999999999999) a))", 1, 25);
+        check.fault("(node a(go 1 (arg 0 less 18446744073709551617) a))", 1, 25);
+        check.fault("(node a(go 1a))", 1, 11);
+        check.fault("x A", 2, 0);
+        check.fault("(node a) x A", 2, 9);
+        check.fault("(nodea)", 2, 1);
+        check.fault("(node`", 1, 5);
+        check.fault("(node{", 1, 5);
+        check.fault("(node/", 1, 5);
+        check.fault("(node:", 1, 5);
+        check.fault("(node a*", 1, 7);
     }
 
     private static void faultsOfShape() {
-        fault(")", 2, 0);
-        fault("node", 2, 0);
-        fault("7", 2, 0);
-        fault("((", 2, 1);
-        fault("()", 2, 1);
-        fault("(7", 2, 1);
-        fault("(go", 2, 1);
-        fault("(mode a)", 2, 1);
-        fault("(noda a)", 2, 1);
-        fault("(node a(ho 1 a))", 2, 8);
-        fault("(node a(go ony a))", 2, 11);
-        fault("(node a(go 1(org 0 less 1)a))", 2, 13);
-        fault("(node(", 2, 5);
-        fault("(node)", 2, 5);
-        fault("(node 1)", 2, 6);
-        fault("(node a b)", 2, 8);
-        fault("(node a 1)", 2, 8);
-        fault("(node a))", 2, 8);
-        fault("(node a(up 1 a))", 2, 8);
-        fault("(node a(go a))", 2, 11);
-        fault("(node a(go (", 2, 11);
-        fault("(node a(go -1 a))", 2, 11);
-        fault("(node a(go 16 a))", 2, 11);
-        fault("(node a(go 1))", 2, 12);
-        fault("(node a(go 1 2))", 2, 13);
-        fault("(node a(go 1 a a))", 2, 15);
-        fault("(node a(go 1 a(", 2, 14);
-        fault("(node a(go 1 any any))", 2, 13);
-        fault("(node a(go any any))", 2, 15);
-        fault("(node a(go 1()a))", 2, 13);
-        fault("(node a(go 1(up 1)a))", 2, 13);
-        fault("(node a(go 1(arg a less 1)a))", 2, 17);
-        fault("(node a(go 1(arg 3 less 1)a))", 2, 17);
-        fault("(node a(go 1(arg -1 less 1)a))", 2, 17);
-        fault("(node a(go 1(arg 0 lesser 1)a))", 2, 19);
-        fault("(node a(go 1(arg 0 1 1)a))", 2, 19);
-        fault("(node a(go 1(arg 0 less a)a))", 2, 24);
-        fault("(node a(go 1(arg 0 less 1 1)a))", 2, 26);
-        fault("(node a(go 1(arg 0 less 1(", 2, 25);
-        fault("(node a(go 1(count 1 less 1)a))", 2, 19);
-        fault("(node a(go 1(count more more 1)a))", 2, 19);
-        fault("(node a(go 1(not)a))", 2, 16);
-        fault("(node a(go 1(not arg 0 less 1)a))", 2, 17);
-        fault("(node a(go 1(not(arg 0 less 1)(arg 0 less 1))a))", 2, 30);
-        fault("(node a(go 1(not(not(arg 0 less 1)) a))", 2, 36);
-        fault("(node a(go 1(not(arg 0 less 1)))a))", 2, 31);
-        fault("(counter a)", 2, 10);
-        fault("(counter a 0)", 2, 11);
-        fault("(counter a 16)", 2, 11);
-        fault("(counter a -1)", 2, 11);
-        fault("(counter a b)", 2, 11);
-        fault("(counter 1 1)", 2, 9);
-        fault("(counter a 1 1)", 2, 13);
-        fault("(counter a 1(go 1 a))", 2, 13);
-        fault("(counter a 1(up))", 2, 15);
-        fault("(counter a 1(up a))", 2, 16);
-        fault("(counter a 1(up 16))", 2, 16);
-        fault("(counter a 1(zero 1 a))", 2, 20);
-        fault("(counter a 1(zero 1 1))", 2, 20);
-        fault("(node a)(counter c 3)", 2, 9);
-        fault("(node a)(count", 2, 9);
+        check.fault(")", 2, 0);
+        check.fault("node", 2, 0);
+        check.fault("7", 2, 0);
+        check.fault("((", 2, 1);
+        check.fault("()", 2, 1);
+        check.fault("(7", 2, 1);
+        check.fault("(go", 2, 1);
+        check.fault("(mode a)", 2, 1);
+        check.fault("(noda a)", 2, 1);
+        check.fault("(node a(ho 1 a))", 2, 8);
+        check.fault("(node a(go ony a))", 2, 11);
+        check.fault("(node a(go 1(org 0 less 1)a))", 2, 13);
+        check.fault("(node(", 2, 5);
+        check.fault("(node)", 2, 5);
+        check.fault("(node 1)", 2, 6);
+        check.fault("(node a b)", 2, 8);
+        check.fault("(node a 1)", 2, 8);
+        check.fault("(node a))", 2, 8);
+        check.fault("(node a(up 1 a))", 2, 8);
+        check.fault("(node a(go a))", 2, 11);
+        check.fault("(node a(go (", 2, 11);
+        check.fault("(node a(go -1 a))", 2, 11);
+        check.fault("(node a(go 16 a))", 2, 11);
+        check.fault("(node a(go 1))", 2, 12);
+        check.fault("(node a(go 1 2))", 2, 13);
+        check.fault("(node a(go 1 a a))", 2, 15);
+        check.fault("(node a(go 1 a(", 2, 14);
+        check.fault("(node a(go 1 any any))", 2, 13);
+        check.fault("(node a(go any any))", 2, 15);
+        check.fault("(node a(go 1()a))", 2, 13);
+        check.fault("(node a(go 1(up 1)a))", 2, 13);
+        check.fault("(node a(go 1(arg a less 1)a))", 2, 17);
+        check.fault("(node a(go 1(arg 3 less 1)a))", 2, 17);
+        check.fault("(node a(go 1(arg -1 less 1)a))", 2, 17);
+        check.fault("(node a(go 1(arg 0 lesser 1)a))", 2, 19);
+        check.fault("(node a(go 1(arg 0 1 1)a))", 2, 19);
+        check.fault("(node a(go 1(arg 0 less a)a))", 2, 24);
+        check.fault("(node a(go 1(arg 0 less 1 1)a))", 2, 26);
+        check.fault("(node a(go 1(arg 0 less 1(", 2, 25);
+        check.fault("(node a(go 1(count 1 less 1)a))", 2, 19);
+        check.fault("(node a(go 1(count more more 1)a))", 2, 19);
+        check.fault("(node a(go 1(not)a))", 2, 16);
+        check.fault("(node a(go 1(not arg 0 less 1)a))", 2, 17);
+        check.fault("(node a(go 1(not(arg 0 less 1)(arg 0 less 1))a))", 2, 30);
+        check.fault("(node a(go 1(not(not(arg 0 less 1)) a))", 2, 36);
+        check.fault("(node a(go 1(not(arg 0 less 1)))a))", 2, 31);
+        check.fault("(counter a)", 2, 10);
+        check.fault("(counter a 0)", 2, 11);
+        check.fault("(counter a 16)", 2, 11);
+        check.fault("(counter a -1)", 2, 11);
+        check.fault("(counter a b)", 2, 11);
+        check.fault("(counter 1 1)", 2, 9);
+        check.fault("(counter a 1 1)", 2, 13);
+        check.fault("(counter a 1(go 1 a))", 2, 13);
+        check.fault("(counter a 1(up))", 2, 15);
+        check.fault("(counter a 1(up a))", 2, 16);
+        check.fault("(counter a 1(up 16))", 2, 16);
+        check.fault("(counter a 1(zero 1 a))", 2, 20);
+        check.fault("(counter a 1(zero 1 1))", 2, 20);
+        check.fault("(node a)(counter c 3)", 2, 9);
+        check.fault("(node a)(count", 2, 9);
     }
 
     private static void faultsOfLimits() {
         String rules = "(counter a 1" + repeat("(up 1)", 4);
-        fault(rules + ")(node a)", 0, -1);
-        fault(rules + "(up 1))(node a)", 2, rules.length());
-        fault(rules + " (", 2, rules.length() + 1);
+        check.fault(rules + ")(node a)", 0, -1);
+        check.fault(rules + "(up 1))(node a)", 2, rules.length());
+        check.fault(rules + " (", 2, rules.length() + 1);
         String ways = "(node a" + repeat("(go 1 a)", 8);
-        fault(ways + ")", 0, -1);
-        fault(ways + "(go 1 a))", 2, ways.length());
+        check.fault(ways + ")", 0, -1);
+        check.fault(ways + "(go 1 a))", 2, ways.length());
         String tests = "(node a(go 1" + repeat("(arg 0 less 1)", 3) + "(not(arg 0 less 1))";
-        fault(tests + "a))", 0, -1);
-        fault(tests + "(arg 0 less 1)a))", 2, tests.length());
+        check.fault(tests + "a))", 0, -1);
+        check.fault(tests + "(arg 0 less 1)a))", 2, tests.length());
         String ruleTests = "(counter a 1(zero 1" + repeat("(arg 0 less 1)", 4);
-        fault(ruleTests + "))(node a)", 0, -1);
-        fault(ruleTests + "(not", 2, ruleTests.length());
+        check.fault(ruleTests + "))(node a)", 0, -1);
+        check.fault(ruleTests + "(not", 2, ruleTests.length());
         StringBuilder nodes = new StringBuilder();
         for (char c = 'a'; c < 'a' + 24; c++) {
             nodes.append("(node ").append(c).append(")");
         }
-        fault(nodes.toString(), 0, -1);
-        fault(nodes + " (node z)", 2, nodes.length() + 1);
-        fault(nodes + "(counter z 1)", 2, nodes.length());
-        fault(nodes + "z", 2, nodes.length());
+        check.fault(nodes.toString(), 0, -1);
+        check.fault(nodes + " (node z)", 2, nodes.length() + 1);
+        check.fault(nodes + "(counter z 1)", 2, nodes.length());
+        check.fault(nodes + "z", 2, nodes.length());
         StringBuilder counters = new StringBuilder();
         for (char c = 'a'; c < 'a' + 6; c++) {
             counters.append("(counter ").append(c).append(" 1)");
         }
-        fault(counters + "(node a)", 0, -1);
-        fault(counters + "(counter z 1)", 2, counters.length() + 1);
+        check.fault(counters + "(node a)", 0, -1);
+        check.fault(counters + "(counter z 1)", 2, counters.length() + 1);
     }
 
     private static void faultsOfNames() {
         String[] words = {"counter", "node", "up", "zero", "go", "arg", "count", "not", "any",
             "less", "same", "more"};
         for (String word : words) {
-            fault("(node " + word + ")", 2, 6);
-            fault("(counter " + word + " 1)(node a)", 2, 9);
-            fault("(node a(go 1 " + word + "))", 2, 13);
-            fault("(node a(go 1(count " + word + " less 1)a))", 2, 19);
-            fault("(node " + word + "s)(node x" + word + ")", 0, -1);
+            check.fault("(node " + word + ")", 2, 6);
+            check.fault("(counter " + word + " 1)(node a)", 2, 9);
+            check.fault("(node a(go 1 " + word + "))", 2, 13);
+            check.fault("(node a(go 1(count " + word + " less 1)a))", 2, 19);
+            check.fault("(node " + word + "s)(node x" + word + ")", 0, -1);
         }
-        fault("(node a)(node b)(node a)", 2, 22);
-        fault("(counter a 1)(counter b 1)(counter a 1)", 2, 35);
-        fault("(counter a 1)(node a)", 0, -1);
-        fault("(node a)(node aa)(node aaa)", 0, -1);
-        fault("(node abcdefghijkl)(node abcdefghijkm)(node abcdefghijkl)", 2, 44);
+        check.fault("(node a)(node b)(node a)", 2, 22);
+        check.fault("(counter a 1)(counter b 1)(counter a 1)", 2, 35);
+        check.fault("(counter a 1)(node a)", 0, -1);
+        check.fault("(node a)(node aa)(node aaa)", 0, -1);
+        check.fault("(node abcdefghijkl)(node abcdefghijkm)(node abcdefghijkl)", 2, 44);
     }
 
     private static void faultsOfEnds() {
         String whole = "(counter a 1 (up 1 (not (arg 0 less 1))))";
         for (int n = 1; n < whole.length(); n++) {
             if (endsToken(whole, n)) {
-                fault(whole.substring(0, n), 3, n);
-                fault(whole.substring(0, n) + "  \n", 3, n + 3);
+                check.fault(whole.substring(0, n), 3, n);
+                check.fault(whole.substring(0, n) + "  \n", 3, n + 3);
             }
         }
-        fault("", 4, 0);
-        fault(" \n ", 4, 3);
-        fault(whole, 4, whole.length());
-        fault(whole + "\n", 4, whole.length() + 1);
-        fault("(counter a 1(up 1(count z less 1)))", 4, 35);
-        fault("(counter a 1(up 0(arg 0 less 1)))", 4, 33);
-        fault("(node a(go 1 a)", 3, 15);
-        fault("(node a(go 1 a", 3, 14);
-        fault("(node a(go 1 zz)", 3, 16);
+        check.fault("", 4, 0);
+        check.fault(" \n ", 4, 3);
+        check.fault(whole, 4, whole.length());
+        check.fault(whole + "\n", 4, whole.length() + 1);
+        check.fault("(counter a 1(up 1(count z less 1)))", 4, 35);
+        check.fault("(counter a 1(up 0(arg 0 less 1)))", 4, 33);
+        check.fault("(node a(go 1 a)", 3, 15);
+        check.fault("(node a(go 1 a", 3, 14);
+        check.fault("(node a(go 1 zz)", 3, 16);
     }
 
     private static boolean endsToken(String text, int n) {
@@ -341,28 +316,28 @@ public final class PromiseTests {
     }
 
     private static void faultsOfLinks() {
-        fault("(node a(go 1 b))", 5, 13);
-        fault("(node a(go 1 aa))(node b)", 5, 13);
-        fault("(counter b 1)(node a(go 1 b))", 5, 26);
-        fault("(node a(go 1(count a less 1)a))", 5, 19);
-        fault("(node a(go 1(not(count zz less 1))a))", 5, 23);
-        fault("(counter c 1(up 1(count d less 1)))(node a(go 1 b))", 5, 24);
-        fault("(node a(go 0(arg 0 less 1)a))", 6, 17);
-        fault("(node a(go 4(arg 0 less 1)a))", 6, 17);
-        fault("(node a(go 5(arg 1 less 1)a))", 6, 17);
-        fault("(node a(go 14(arg 2 less 1)a))", 6, 18);
-        fault("(node a(go 1(arg 0 less 1)(not(arg 1 less 1))zz))", 6, 35);
-        fault("(node a(go 1(count c less 1)(arg 2 less 1)a))", 5, 19);
-        fault("(node a(go 1 zz)(go 0(arg 0 less 1)a))", 5, 13);
-        fault("(node a(go 0(arg 0 less 1)a)(go 1 zz))", 6, 17);
-        fault("(counter c 1(up 1(arg 1 less 1)))(node a(go 1 zz))", 6, 22);
-        fault("(node a(go 0(arg 0 less 1)a))(node a)", 2, 35);
-        fault("(node a(go 1 zz))(", 3, 18);
-        fault("(node a(go 1 zz))\t", 1, 17);
+        check.fault("(node a(go 1 b))", 5, 13);
+        check.fault("(node a(go 1 aa))(node b)", 5, 13);
+        check.fault("(counter b 1)(node a(go 1 b))", 5, 26);
+        check.fault("(node a(go 1(count a less 1)a))", 5, 19);
+        check.fault("(node a(go 1(not(count zz less 1))a))", 5, 23);
+        check.fault("(counter c 1(up 1(count d less 1)))(node a(go 1 b))", 5, 24);
+        check.fault("(node a(go 0(arg 0 less 1)a))", 6, 17);
+        check.fault("(node a(go 4(arg 0 less 1)a))", 6, 17);
+        check.fault("(node a(go 5(arg 1 less 1)a))", 6, 17);
+        check.fault("(node a(go 14(arg 2 less 1)a))", 6, 18);
+        check.fault("(node a(go 1(arg 0 less 1)(not(arg 1 less 1))zz))", 6, 35);
+        check.fault("(node a(go 1(count c less 1)(arg 2 less 1)a))", 5, 19);
+        check.fault("(node a(go 1 zz)(go 0(arg 0 less 1)a))", 5, 13);
+        check.fault("(node a(go 0(arg 0 less 1)a)(go 1 zz))", 6, 17);
+        check.fault("(counter c 1(up 1(arg 1 less 1)))(node a(go 1 zz))", 6, 22);
+        check.fault("(node a(go 0(arg 0 less 1)a))(node a)", 2, 35);
+        check.fault("(node a(go 1 zz))(", 3, 18);
+        check.fault("(node a(go 1 zz))\t", 1, 17);
     }
 
     private static void printsAs(String text, String want) {
-        PolicyText x = with(text);
+        PolicyText x = check.with(text);
         check.due("print of " + text, x.print(), want.length());
         check.due("PRINTED " + text, Check.bytes(x, false), want);
         check.due("TEXT of " + text, Check.bytes(x, true), text);
@@ -381,7 +356,7 @@ public final class PromiseTests {
                 + " (count c more 2147483647) (not (count d same -1000000000)) (count c same 999999999) a))\n");
         printsAs("(counter c 1(zero 2)(up 1(count c less 1)))(node az)",
                 "(counter c 1 (zero 2) (up 1 (count c less 1)))\n(node az)\n");
-        PolicyText x = with(DOOR);
+        PolicyText x = check.with(DOOR);
         x.print();
         Check.readOf(x, "(node b)");
         check.due("PRINTED stays", x.look(3), DOOR.length() - 12);
@@ -404,8 +379,8 @@ public final class PromiseTests {
         check.due("PRINTED stays", Check.bytes(x, false), printed);
         check.due("poke", x.poke(0, 'x'), true);
         check.due("PRINTED is not the TEXT", x.byteAt(0, false), '(');
-        String most = wide(169);
-        PolicyText large = with(most);
+        String most = Texts.wide(169);
+        PolicyText large = check.with(most);
         int length = large.print();
         check.due("more than 4096 PRINTED", length > 4096, true);
         check.due("turnOver of too many", large.turnOver(), false);
@@ -417,13 +392,13 @@ public final class PromiseTests {
 
     /** 4096 bytes PRINTED are the TEXT, 4097 are not. */
     private static void exactlyFull() {
-        PolicyText x = with(wide(162) + "(node zzzzzzzzzzz)");
+        PolicyText x = check.with(Texts.wide(162) + "(node zzzzzzzzzzz)");
         check.due("print of 4096", x.print(), 4096);
         check.due("turnOver of 4096", x.turnOver(), true);
         check.due("TEXT of 4096", x.look(2), 4096);
         check.due("its last byte", x.byteAt(4095, true), '\n');
         check.due("read of 4096", x.read(), 0);
-        PolicyText y = with(wide(162) + "(node zzzzzzzzzzzz)");
+        PolicyText y = check.with(Texts.wide(162) + "(node zzzzzzzzzzzz)");
         check.due("print of 4097", y.print(), 4097);
         check.due("turnOver of 4097", y.turnOver(), false);
     }
@@ -431,7 +406,7 @@ public final class PromiseTests {
     private static void stand() {
         PolicyText x = new PolicyText();
         check.due("stand without COUNTERS", x.stand(0, 0), false);
-        x = with(DOOR);
+        x = check.with(DOOR);
         check.due("stand at m", x.stand(0, 3), true);
         check.due("stands at m", x.counter(0, 2), 3);
         check.due("stand above m", x.stand(0, 4), false);
@@ -446,7 +421,7 @@ public final class PromiseTests {
     }
 
     private static void counter() {
-        PolicyText x = with(DOOR);
+        PolicyText x = check.with(DOOR);
         x.stand(1, 14);
         int[][] want = {{3, 2, 0, 5}, {15, 0, 14, 6}};
         for (int k = 0; k < 2; k++) {
@@ -458,11 +433,11 @@ public final class PromiseTests {
         }
         check.due("counter 2", x.counter(2, 0), -1);
         check.due("counter -1", x.counter(-1, 0), -1);
-        check.due("letters of 12", with("(counter abcdefghijkl 1)(node a)").counter(0, 3), 12);
+        check.due("letters of 12", check.with("(counter abcdefghijkl 1)(node a)").counter(0, 3), 12);
     }
 
     private static void node() {
-        PolicyText x = with(DOOR + "(node abcdefghijkl)");
+        PolicyText x = check.with(DOOR + "(node abcdefghijkl)");
         int[][] want = {{3, 4}, {1, 4}, {0, 12}};
         for (int k = 0; k < 3; k++) {
             check.due("node(" + k + ", 0)", x.node(k, 0), want[k][0]);
@@ -484,7 +459,7 @@ public final class PromiseTests {
     }
 
     private static void clause() {
-        PolicyText x = with(DOOR);
+        PolicyText x = check.with(DOOR);
         clauseIs(x, false, 0, 0, 1, 1, 1);
         clauseIs(x, false, 0, 1, 16, 0, 0);
         clauseIs(x, false, 0, 2, -1, -1, -1);
@@ -510,7 +485,7 @@ public final class PromiseTests {
     }
 
     private static void test() {
-        PolicyText x = with(DOOR);
+        PolicyText x = check.with(DOOR);
         testIs(x, false, 0, 0, 0, 0, 0, 0, 0);
         testIs(x, false, 0, 0, 1, -1, -1, -1, -1);
         testIs(x, false, 0, 0, -1, -1, -1, -1, -1);
@@ -521,18 +496,18 @@ public final class PromiseTests {
         testIs(x, true, 0, 2, 0, 1, 0, 0, 1);
         testIs(x, true, 1, 0, 0, 0, 2, 2, 1);
         testIs(x, true, 2, 0, 0, -1, -1, -1, -1);
-        x = with("(counter a 1)(counter b 1)(counter c 1)(counter d 1)(counter e 1)(counter f 1)"
+        x = check.with("(counter a 1)(counter b 1)(counter c 1)(counter d 1)(counter e 1)(counter f 1)"
                 + "(node a(go 2(count f more 0)(not(not(count c same 0)))(arg 1 less 0)a))");
         testIs(x, true, 0, 0, 0, 1, 5, 2, 0);
         testIs(x, true, 0, 0, 1, 1, 2, 1, 0);
         testIs(x, true, 0, 0, 2, 0, 1, 0, 0);
         testIs(x, true, 0, 0, 3, -1, -1, -1, -1);
-        x = with("(counter a 1(up 1(count b less 1)))(counter b 1)(node a)");
+        x = check.with("(counter a 1(up 1(count b less 1)))(counter b 1)(node a)");
         testIs(x, false, 0, 0, 0, 1, 1, 0, 0);
     }
 
     private static void than() {
-        PolicyText x = with("(counter a 1(up 1(arg 0 less 2147483647)(arg 0 less -2147483648)))"
+        PolicyText x = check.with("(counter a 1(up 1(arg 0 less 2147483647)(arg 0 less -2147483648)))"
                 + "(node a(go 0(count a more -7)a))");
         check.due("than", x.than(false, 0, 0, 0), Integer.MAX_VALUE);
         check.due("than", x.than(false, 0, 0, 1), Integer.MIN_VALUE);
@@ -546,7 +521,7 @@ public final class PromiseTests {
     }
 
     private static void call() {
-        PolicyText x = with("(node a(go 0 a)(go 15(arg 0 same 1)(arg 1 same 2)(arg 2 same 3)a))");
+        PolicyText x = check.with("(node a(go 0 a)(go 15(arg 0 same 1)(arg 1 same 2)(arg 2 same 3)a))");
         check.due("the CALL is 0 at first", x.holds(true, 0, 0), true);
         check.due("call 16", x.call(16, 1, 2, 3), false);
         check.due("call -1", x.call(-1, 1, 2, 3), false);
@@ -567,7 +542,7 @@ public final class PromiseTests {
     }
 
     private static void holds() {
-        PolicyText x = with("(counter c 9(up 1(count c same 4))(zero any(count c more 4)))"
+        PolicyText x = check.with("(counter c 9(up 1(count c same 4))(zero any(count c more 4)))"
                 + "(node a(go any(arg 0 less 5)a)(go any(arg 1 same 5)a)(go any(arg 2 more 5)a)"
                 + "(go any(not(arg 1 same 5))a)(go 2(arg 0 less 0)(count c less 4)a)(go 2 a))");
         x.call(1, 4, 5, 6);
@@ -598,7 +573,7 @@ public final class PromiseTests {
         check.due("no COUNTER", x.holds(false, 1, 0), false);
         check.due("no NODE", x.holds(true, 1, 0), false);
         check.due("no WAY", x.holds(true, 0, -1), false);
-        x = with("(node a(go 1(arg 0 less -2147483648)a)(go 1(arg 0 more -2147483648)a)"
+        x = check.with("(node a(go 1(arg 0 less -2147483648)a)(go 1(arg 0 more -2147483648)a)"
                 + "(go 1(arg 0 more 2147483647)a)(go 1(arg 0 less 2147483647)a))");
         x.call(1, Integer.MIN_VALUE, 0, 0);
         check.due("least is less", x.holds(true, 0, 0), false);
@@ -610,7 +585,7 @@ public final class PromiseTests {
     }
 
     private static void make() {
-        PolicyText x = with(MOVING);
+        PolicyText x = check.with(MOVING);
         check.due("make of call 0", x.make(0), 1);
         standsAt(x, 0, 0, 0);
         x.call(1, 0, 0, 0);
@@ -623,14 +598,14 @@ public final class PromiseTests {
         standsAt(x, 2, 1, 2);
         check.due("no WAYS", x.make(1), 0);
         standsAt(x, 2, 1, 0);
-        x = with("(counter c 1(zero 1)(zero 1)(zero 1))(node a(go 1 b)(go 1 c)(go 1 d)(go 1 b))"
+        x = check.with("(counter c 1(zero 1)(zero 1)(zero 1))(node a(go 1 b)(go 1 c)(go 1 d)(go 1 b))"
                 + "(node b)(node c)(node d)");
         x.call(1, 0, 0, 0);
         check.due("b, c and d", x.make(0), 3);
     }
 
     private static void makeMovesCounters() {
-        PolicyText x = with(MOVING);
+        PolicyText x = check.with(MOVING);
         x.stand(0, 2);
         x.stand(1, 1);
         x.call(2, 0, 0, 0);
@@ -667,7 +642,7 @@ public final class PromiseTests {
     }
 
     private static void look() {
-        PolicyText x = with(DOOR);
+        PolicyText x = check.with(DOOR);
         x.print();
         int[] want = {2, 2, DOOR.length(), DOOR.length() - 12, 0, -1, 4};
         for (int which = 0; which < want.length; which++) {
