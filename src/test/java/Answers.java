@@ -1,21 +1,13 @@
 import java.util.function.Supplier;
 import java.util.function.ToLongFunction;
 
-/**
- * All that can be asked of an object without changing it, a line an answer. The questions go to
- * objects that are made alike, since one object is promised for 512 calls only.
- */
+/** All that can be asked of an object without changing it, a line an answer. */
 final class Answers {
-    private static final int QUESTIONS_EACH = 50;
-
-    private final Supplier<PolicyText> maker;
+    private final Fresh objects;
     private final StringBuilder all = new StringBuilder();
-    private PolicyText x;
-    private int asked;
 
     private Answers(Supplier<PolicyText> maker) {
-        this.maker = maker;
-        x = maker.get();
+        objects = new Fresh(maker);
     }
 
     static String of(Supplier<PolicyText> maker) {
@@ -57,12 +49,7 @@ final class Answers {
     }
 
     private int ask(String name, ToLongFunction<PolicyText> question) {
-        if (asked == QUESTIONS_EACH) {
-            x = maker.get();
-            asked = 0;
-        }
-        asked++;
-        int answer = (int) question.applyAsLong(x);
+        int answer = (int) question.applyAsLong(objects.get());
         all.append(name).append('=').append(answer).append('\n');
         return answer;
     }

@@ -24,8 +24,10 @@ public final class BoundaryTests {
         pokeKnowsItsPlaces();
         pokeTakesTheLowestBits();
         readMakesThePolicy();
+        readSetsCountersToZero();
         readKeepsTheText();
         readOfAFullText();
+        allLimitsAtOnce();
         printSaysHowMany();
         printFillsTheRoom();
         turnOverOfNothing();
@@ -48,6 +50,7 @@ public final class BoundaryTests {
         makeStopsAtM();
         makeTakesTheFirstRule();
         makeAsksAheadOfMoving();
+        makeMovesAllCounters();
         byteAtKnowsItsPlaces();
         lookCounts();
         lookSaysTheLatestFault();
@@ -268,6 +271,20 @@ public final class BoundaryTests {
         }
     }
 
+    private static void readSetsCountersToZero() {
+        check.sentence("5: its COUNTERS stand at 0");
+        PolicyText x = check.with(Texts.counters(6) + "(node a)");
+        for (int n = 0; n < 5; n++) {
+            for (int k = 0; k < 6; k++) {
+                check.due("stand", x.stand(k, 1), true);
+            }
+            check.due("read", x.read(), 0);
+            for (int k = 0; k < 6; k++) {
+                check.due("COUNTER " + k + " behind read", x.counter(k, 2), 0);
+            }
+        }
+    }
+
     private static void readKeepsTheText() {
         check.sentence("5: (The TEXT stays.)");
         for (String text : new String[] {"(node b)", " ( node b ) ", "(node b", "\0?", "(node a(go 1 b))"}) {
@@ -301,6 +318,42 @@ public final class BoundaryTests {
         }
         check.due("blanks alone", y.read(), 4);
         check.due("place", y.look(5), parens);
+    }
+
+    private static void allLimitsAtOnce() {
+        check.sentence("up to 6 COUNTERS, 4 RULES in each, 24 NODES, 8 WAYS in each, up to 4 G, all at once");
+        String packed = Texts.most(false);
+        String printed = Texts.most(true);
+        Fresh objects = new Fresh(() -> Answers.behind(() -> check.with(packed), x -> x.print()));
+        check.due("COUNTERS", objects.get().look(0), 6);
+        check.due("NODES", objects.get().look(1), 24);
+        check.due("bytes PRINTED", objects.get().look(3), printed.length());
+        check.due("PRINTED", objects.bytes(false), printed);
+        int tests = 0;
+        for (int head = 0; head < 30; head++) {
+            boolean ways = head >= 6;
+            for (int j = 0; j < (ways ? 8 : 4); j++) {
+                int k = ways ? head - 6 : head;
+                mostClauseIs(objects, ways, k, j);
+                tests += Texts.mostTests(ways, k, j);
+            }
+        }
+        check.due("TESTS in all", objects.get().look(6), tests);
+    }
+
+    private static void mostClauseIs(Fresh objects, boolean ways, int k, int j) {
+        String name = (ways ? "WAY " : "RULE ") + j + " of " + k;
+        check.due("call of " + name, objects.get().clause(ways, k, j, 0), Texts.mostCall(ways, k, j));
+        check.due("goal of " + name, objects.get().clause(ways, k, j, 2), Texts.mostGoal(ways, k, j));
+        int tests = Texts.mostTests(ways, k, j);
+        check.due("TESTS of " + name, objects.get().clause(ways, k, j, 1), tests);
+        for (int i = 0; i < tests; i++) {
+            boolean counted = i % 2 == 0;
+            check.due("kind in " + name, objects.get().test(ways, k, j, i, 0), counted ? 1 : 0);
+            check.due("which in " + name, objects.get().test(ways, k, j, i, 1), counted ? (k + j) % 6 : 1);
+            check.due("than in " + name, objects.get().than(ways, k, j, i), Texts.mostThan(ways, k, j, i));
+        }
+        check.due("no further TEST of " + name, objects.get().test(ways, k, j, tests, 0), -1);
     }
 
     private static void printSaysHowMany() {
@@ -777,6 +830,27 @@ public final class BoundaryTests {
             for (int k = 0; k < 3; k++) {
                 check.due("COUNTER " + k, x.counter(k, 2), want[k]);
             }
+        }
+    }
+
+    private static void makeMovesAllCounters() {
+        check.sentence("16: then COUNTERS stand as RULES say, with 6 of them");
+        StringBuilder text = new StringBuilder();
+        for (int k = 0; k < 6; k++) {
+            text.append("(counter ").append((char) ('a' + k)).append(" 15(zero 1)(zero 2)(zero 3)(up any(count ")
+                    .append((char) ('a' + (k + 5) % 6)).append(k == 0 ? " less 15)))" : " more 0)))");
+        }
+        PolicyText x = check.with(text + "(node a(go any a))");
+        for (int n = 1; n < 20; n++) {
+            check.due("make", x.make(0), 1);
+            for (int k = 0; k < 6; k++) {
+                check.due("COUNTER " + k + " at " + n, x.counter(k, 2), Math.max(0, Math.min(n - k, 15)));
+            }
+        }
+        x.call(3, 0, 0, 0);
+        check.due("make", x.make(0), 1);
+        for (int k = 0; k < 6; k++) {
+            check.due("COUNTER " + k, x.counter(k, 2), 0);
         }
     }
 
