@@ -416,8 +416,9 @@ public final class PolicyText {
         }
 
         int find(boolean ways, long name) {
+            int first = ways ? MOST_COUNTERS : 0;
             for (int k = 0; k < heads(ways); k++) {
-                if (nameOf(ways, k) == name) {
+                if (names[first + k] == name) {
                     return k;
                 }
             }

@@ -1,18 +1,15 @@
-import java.io.IOException;
 import java.lang.reflect.Array;
 import java.lang.reflect.Constructor;
 import java.lang.reflect.Field;
 import java.lang.reflect.Method;
 import java.lang.reflect.Modifier;
-import java.nio.file.Files;
-import java.nio.file.Path;
 import java.util.Arrays;
 import java.util.Collections;
 import java.util.IdentityHashMap;
 import java.util.Set;
 import java.util.TreeSet;
 
-/** The public face, how much of the room an object takes, and rules of the language. */
+/** The public face, the classes inside, and how much of the room an object takes. */
 public final class FaceTests {
     private static final Check check = new Check();
 
@@ -28,11 +25,10 @@ public final class FaceTests {
     /** A room has 7.3 million fields and elements; even 512 new objects have to fit. */
     private static final int ROOM_FOR_ONE = 7_300_000 / 512;
 
-    public static void main(String[] args) throws IOException, IllegalAccessException {
+    public static void main(String[] args) throws IllegalAccessException {
         face();
         classesInside();
         room();
-        words();
         check.end();
     }
 
@@ -110,18 +106,5 @@ public final class FaceTests {
             }
         }
         return all;
-    }
-
-    private static void words() throws IOException {
-        String code = Files.readString(Path.of("src/main/java/PolicyText.java"))
-                .replaceAll("(?s)/\\*.*?\\*/", " ").replaceAll("//[^\n]*", " ")
-                .replaceAll("\"[^\"\n]*\"", "\"\"");
-        Set<String> used = new TreeSet<>(Arrays.asList(code.split("[^A-Za-z]+")));
-        String[] barred = {"throw", "throws", "try", "catch", "finally", "synchronized", "assert",
-            "import", "package", "hashCode", "toString", "Object", "Thread", "Random", "native", "volatile"};
-        for (String word : barred) {
-            check.due("the code has " + word, used.contains(word), false);
-        }
-        check.due("the code has ->", code.contains("->") || code.contains("::"), false);
     }
 }
